@@ -202,12 +202,16 @@ public final class FormDesk {
         private int s;
         private int discriminant;
 
-        /** Reduces the form (a, b, c) and answers how many steps that took. */
-        int run(int a, int b, int c) {
-            start(a, b, c);
+        /** Reduces the form (first, middle, third) and answers how many steps that took. */
+        int run(int first, int middle, int third) {
+            start(first, middle, third);
             int steps = 0;
             while (steps < STEP_BOUND && !isReduced()) {
-                step();
+                if (needsShift()) {
+                    shift();
+                } else {
+                    turn();
+                }
                 steps++;
             }
             return steps;
@@ -226,10 +230,10 @@ public final class FormDesk {
             }
         }
 
-        private void start(int a, int b, int c) {
-            this.a = a;
-            this.b = b;
-            this.c = c;
+        private void start(int first, int middle, int third) {
+            a = first;
+            b = middle;
+            c = third;
             p = 1;
             q = 0;
             r = 0;
@@ -242,12 +246,8 @@ public final class FormDesk {
             return size <= a && a <= c && (b >= 0 || size != a && a != c);
         }
 
-        private void step() {
-            if (Math.abs(b) > a || b == -a) {
-                shift();
-            } else {
-                turn();
-            }
+        private boolean needsShift() {
+            return Math.abs(b) > a || b == -a;
         }
 
         private void shift() {
@@ -311,24 +311,16 @@ public final class FormDesk {
         }
 
         /**
-         * Composes without looking for a form with coprime first number: with e the common divisor of
-         * both first numbers and half the sum of the middle ones, the composition begins with
-         * a * d / (e * e), and exactly one middle number, modulo twice that, meets the conditions below.
+         * Composes without looking for a form with a coprime first number: with e the common divisor
+         * of both first numbers and half the sum of the middle ones, the product of the first numbers
+         * over e * e is the first number of a form in the class that is sought.
          */
         int product(int j, int k) {
-            int sum = b[j] + b[k];
-            int e = gcd(gcd(a[j], a[k]), sum / 2);
-            int left = a[j] / e;
-            int right = a[k] / e;
-            int first = left * right;
-            int aim = discriminant + b[j] * b[k];
-            for (int t = 0; t < right; t++) {
-                int middle = b[j] + 2 * left * t;
-                if ((middle - b[k]) % (2 * right) == 0 && (sum * middle - aim) % (4 * first * e) == 0) {
-                    return classOf(first, middle);
-                }
-            }
-            return NONE;
+            int e = gcd(gcd(a[j], a[k]), (b[j] + b[k]) / 2);
+            int first = a[j] / e * (a[k] / e);
+            int middle = middleOfProduct(j, k, e);
+            composed.run(first, middle, (middle * middle - discriminant) / (4 * first));
+            return find(composed.a, composed.b);
         }
 
         int opposite(int k) {
@@ -430,9 +422,21 @@ public final class FormDesk {
             return true;
         }
 
-        private int classOf(int first, int middle) {
-            composed.run(first, middle, (middle * middle - discriminant) / (4 * first));
-            return find(composed.a, composed.b);
+        /** Modulo twice the first number of the product, there is exactly one number that passes. */
+        private int middleOfProduct(int j, int k, int e) {
+            int left = a[j] / e;
+            int right = a[k] / e;
+            int sum = b[j] + b[k];
+            int aim = b[j] * b[k] + discriminant;
+            int modulus = 4 * left * right * e;
+            int middle = b[j];
+            for (int t = 0; t < right; t++) {
+                if ((middle - b[k]) % (2 * right) == 0 && (sum * middle - aim) % modulus == 0) {
+                    return middle;
+                }
+                middle += 2 * left;
+            }
+            return middle;
         }
 
         private int countInRow(int k, int y, int square, boolean properly) {
