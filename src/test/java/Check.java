@@ -28,8 +28,20 @@ final class Check {
         }
     }
 
+    void gives(String what, int due, Call call) {
+        outcomeIs(what, String.valueOf(due), call);
+    }
+
+    void outcomeIs(String what, String due, Call call) {
+        asked++;
+        String got = outcome(call);
+        if (!got.equals(due)) {
+            tell(what + " gave " + got + ", due is " + due);
+        }
+    }
+
     void refuses(String what, Class<? extends RuntimeException> due, Call call) {
-        same(what + " throws " + due.getSimpleName(), outcome(call).equals(due.getSimpleName()) ? 1 : 0, 1);
+        outcomeIs(what, due.getSimpleName(), call);
     }
 
     /** What the call answers, or the name of what it throws. */
