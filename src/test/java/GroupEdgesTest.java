@@ -105,14 +105,12 @@ final class GroupEdgesTest {
     private static void powers(Check check) {
         FormDesk desk = deskAt(-47);
         int[] due = {0, 1, 4, 3, 2, 0, 1, 4, 3, 2, 0};
+        int[] dueBelow = {0, 2, 3, 4, 1, 0, 2, 3, 4, 1, 0};
         for (int n = 0; n < due.length; n++) {
             int times = n;
             check.gives("-47: power(1, " + n + ")", due[n], () -> desk.power(1, times));
-            int opposite = desk.inverse(due[n]);
-            check.gives("-47: power(1, -" + n + ")", opposite, () -> desk.power(1, -times));
+            check.gives("-47: power(1, -" + n + ")", dueBelow[n], () -> desk.power(1, -times));
         }
-        check.gives("-47: power(1, -1)", 2, () -> desk.power(1, -1));
-        check.gives("-47: power(1, -2)", 3, () -> desk.power(1, -2));
     }
 
     private static void powersAtTheEndsOfInt(Check check) {

@@ -137,7 +137,7 @@ final class ReduceEdgesTest {
         sameReduction(check, new int[] {2, 5, 4}, 3, new int[] {1, 1, 2}, new int[] {-1, -2, 1, 1});
     }
 
-    /** No form that is taken needs more than 13 steps. */
+    /** A search from -3 down to -59 has found no form that is taken and needs more than 13 steps. */
     private static void longestReduction(Check check) {
         sameReduction(check, new int[] {16441, 19288, 5657}, 13, new int[] {1, 0, 1}, null);
         sameReduction(check, new int[] {16441, -19288, 5657}, 13, new int[] {1, 0, 1}, null);

@@ -3,6 +3,8 @@ import java.util.NoSuchElementException;
 /** The edges that promises 14 to 16 name, and those of words that the terms name. */
 final class WordEdgesTest {
     private static final int FULL = 40;
+    /** Class 1 of -47, which has the order 5, to the powers 0 .. 4. */
+    private static final int[] POWERS_OF_B = {0, 1, 4, 3, 2};
 
     public static void main(String[] args) {
         Check check = new Check("WordEdgesTest");
@@ -121,11 +123,11 @@ final class WordEdgesTest {
     private static void wordWithFortySigns(Check check) {
         for (int there = FULL - 5; there <= FULL; there++) {
             for (int n = 1; n <= 4; n++) {
-                FormDesk desk = deskWith(-1271, "B".repeat(there));
+                FormDesk desk = deskWith(-47, "B".repeat(there));
                 boolean fits = there + n <= FULL;
                 check.is(n + " more where " + there + " are", desk.put(Letters.packed("BBBB"), n) == fits);
                 int length = fits ? there + n : there;
-                check.gives("B " + length + " times", desk.power(1, length), desk::word);
+                check.gives("B " + length + " times", POWERS_OF_B[length % 5], desk::word);
                 check.same("room behind " + length, room(desk), FULL - length);
             }
         }
@@ -207,10 +209,9 @@ final class WordEdgesTest {
 
     /** Terms: "a digit 2 .. 9 behind a letter or a part in parentheses raises that to this power". */
     private static void digits(Check check) {
-        int[] powers = {4, 3, 2, 0, 1, 4, 3, 2};
         for (int n = 2; n <= 9; n++) {
-            stands(check, -47, "B" + n, powers[n - 2]);
-            stands(check, -47, "(B)" + n, powers[n - 2]);
+            stands(check, -47, "B" + n, POWERS_OF_B[n % 5]);
+            stands(check, -47, "(B)" + n, POWERS_OF_B[n % 5]);
             broken(check, String.valueOf(n));
             broken(check, "(" + n + ")");
             broken(check, "B(" + n + ")");
