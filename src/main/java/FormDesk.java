@@ -168,6 +168,10 @@ public final class FormDesk {
         return gcd(gcd(a, b), c) == 1;
     }
 
+    private static boolean divides(int divisor, int n) {
+        return divisor != 0 && n % divisor == 0;
+    }
+
     private static int gcd(int m, int n) {
         int x = Math.abs(m);
         int y = Math.abs(n);
@@ -206,7 +210,8 @@ public final class FormDesk {
         int run(int first, int middle, int third) {
             start(first, middle, third);
             int steps = 0;
-            while (steps < STEP_BOUND && !isReduced()) {
+            // A form as said keeps its first number above 0, and a shift divides by twice that.
+            while (steps < STEP_BOUND && a > 0 && !isReduced()) {
                 if (needsShift()) {
                     shift();
                 } else {
@@ -313,17 +318,33 @@ public final class FormDesk {
         /**
          * Composes without looking for a form with a coprime first number: with e the common divisor
          * of both first numbers and half the sum of the middle ones, the product of the first numbers
-         * over e * e is the first number of a form in the class that is sought.
+         * over e * e is the first number of a form in the class that is sought. NONE only for a
+         * class that is not there.
          */
         int product(int j, int k) {
+            if (!has(j) || !has(k)) {
+                return NONE;
+            }
             int e = gcd(gcd(a[j], a[k]), (b[j] + b[k]) / 2);
-            int first = a[j] / e * (a[k] / e);
-            int middle = middleOfProduct(j, k, e);
-            composed.run(first, middle, (middle * middle - discriminant) / (4 * first));
+            if (e == 0) {
+                return NONE;
+            }
+            int left = a[j] / e;
+            int right = a[k] / e;
+            int middle = middleOfProduct(left, b[j], right, b[k], e);
+            int rest = middle * middle - discriminant;
+            int divisor = 4 * left * right;
+            if (!divides(divisor, rest)) {
+                return NONE;
+            }
+            composed.run(left * right, middle, rest / divisor);
             return find(composed.a, composed.b);
         }
 
         int opposite(int k) {
+            if (!has(k)) {
+                return NONE;
+            }
             int other = find(a[k], -b[k]);
             // Where the mirrored form is not reduced, it is equivalent to the form itself.
             return other == NONE ? k : other;
@@ -372,6 +393,9 @@ public final class FormDesk {
         }
 
         int countPairs(int k, int n, boolean properly) {
+            if (!has(k)) {
+                return 0;
+            }
             int count = 0;
             // 4 * a * n = (2 * a * x + b * y)^2 - D * y * y, and |y| is never above n in a reduced form.
             for (int y = 0; y <= n; y++) {
@@ -397,7 +421,7 @@ public final class FormDesk {
 
         private boolean addBoth(int first, int middle) {
             int rest = middle * middle - discriminant;
-            if (rest % (4 * first) != 0) {
+            if (!divides(4 * first, rest)) {
                 return true;
             }
             int third = rest / (4 * first);
@@ -423,15 +447,13 @@ public final class FormDesk {
         }
 
         /** Modulo twice the first number of the product, there is exactly one number that passes. */
-        private int middleOfProduct(int j, int k, int e) {
-            int left = a[j] / e;
-            int right = a[k] / e;
-            int sum = b[j] + b[k];
-            int aim = b[j] * b[k] + discriminant;
+        private int middleOfProduct(int left, int leftMiddle, int right, int rightMiddle, int e) {
+            int sum = leftMiddle + rightMiddle;
+            int aim = leftMiddle * rightMiddle + discriminant;
             int modulus = 4 * left * right * e;
-            int middle = b[j];
+            int middle = leftMiddle;
             for (int t = 0; t < right; t++) {
-                if ((middle - b[k]) % (2 * right) == 0 && (sum * middle - aim) % modulus == 0) {
+                if (divides(2 * right, middle - rightMiddle) && divides(modulus, sum * middle - aim)) {
                     return middle;
                 }
                 middle += 2 * left;
@@ -453,7 +475,7 @@ public final class FormDesk {
 
         private boolean isPair(int k, int doubleAx, int y, boolean properly) {
             int divisor = 2 * a[k];
-            return doubleAx % divisor == 0 && (!properly || gcd(doubleAx / divisor, y) == 1);
+            return divides(divisor, doubleAx) && (!properly || gcd(doubleAx / divisor, y) == 1);
         }
     }
 
@@ -519,11 +541,12 @@ public final class FormDesk {
                     continue;
                 }
                 open[depth] = classes.product(open[depth], waiting);
-                if (sign == '(') {
+                // A well-formed word never goes deeper or below: looked at, so that no index can.
+                if (sign == '(' && depth < MOST_DEPTH) {
                     depth++;
                     open[depth] = 0;
                     waiting = 0;
-                } else if (sign == ')') {
+                } else if (sign == ')' && depth > 0) {
                     waiting = open[depth];
                     depth--;
                 } else {
